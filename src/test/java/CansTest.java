@@ -16,6 +16,7 @@ public final class CansTest {
         test.notesThatAreNotTaken();
         test.readings();
         test.sums();
+        test.fullGarden();
         test.due.end();
     }
 
@@ -154,7 +155,9 @@ public final class CansTest {
         due.is("fix(0, 3, -2)", x.fix(0, 3, -2), -2);
         due.is("fix(0, 28, -2)", x.fix(0, 28, -2), -1);
         due.is("fix(2, 0, 1)", x.fix(2, 0, 1), -1);
+        due.is("of(0, 3, 5)", x.of(0, 3, 5), -6);
         due.is("undo()", x.undo(), 2);
+        due.is("of(0, 3, 5), VALUE follows", x.of(0, 3, 5), 12);
         due.is("of(0, 3, 1), the FIX before counts again", x.of(0, 3, 1), 12);
         due.is("undo()", x.undo(), 1);
         due.is("of(1, 3, 1)", x.of(1, 3, 1), -6);
@@ -337,5 +340,37 @@ public final class CansTest {
         due.is("of(0, 3, 2): a SUM read late", x.of(0, 3, 2), 8);
         due.is("of(0, 2, 5)", x.of(0, 2, 5), 0);
         due.is("of(0, 3, 5)", x.of(0, 3, 5), 10);
+    }
+
+    /** All rows are full to their ends: nothing may be looked for behind them. */
+    private void fullGarden() {
+        due.about("six CANS, all DAYS read");
+        RainCans x = new RainCans();
+        for (int can = 0; can < 6; can++) {
+            x.can(can, 0);
+            for (int day = 0; day < 28; day++) {
+                x.raw(can, day, 10 * can + 5);
+            }
+        }
+        for (int day = 0; day < 28; day++) {
+            due.is("of(5, " + day + ", 2)", x.of(5, day, 2), 55);
+            due.is("of(5, " + day + ", 4)", x.of(5, day, 4), 25);
+            due.is("of(0, " + day + ", 4)", x.of(0, day, 4), 35);
+            due.is("of(5, " + day + ", 5)", x.of(5, day, 5), 55);
+        }
+        due.is("note", note(x, 5, "s0-26;l27"), 2);
+        due.is("of(5, 26, 2)", x.of(5, 26, 2), 55);
+        due.is("of(5, 27, 2)", x.of(5, 27, 2), -6);
+        due.is("of(5, 0, 5)", x.of(5, 0, 5), 2);
+        due.is("of(5, 26, 5)", x.of(5, 26, 5), 3);
+        due.is("of(5, 27, 5)", x.of(5, 27, 5), -6);
+        due.is("claim(4, 27)", x.claim(4, 27), 1);
+        due.is("week(5, 21, 1)", x.week(5, 21, 1), 0);
+        due.is("breaks(4, 1)", x.breaks(4, 1), 0);
+        due.is("chance(4, 1)", x.chance(4, 1), 99);
+        due.is("seam(654321, -1)", x.seam(654321, -1), 1);
+        due.is("seam(654321, 0)", x.seam(654321, 0), 27);
+        due.is("fives(5, 1)", x.fives(5, 1), 26);
+        due.is("forgets(5, 1)", x.forgets(5, 1), 0);
     }
 }

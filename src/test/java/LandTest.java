@@ -155,6 +155,10 @@ public final class LandTest {
         due.is("fill(0, 0, -1)", x.fill(0, 0, -1), -2);
         due.is("fill(0, 28, 2)", x.fill(0, 28, 2), -1);
         due.is("fill(3, 0, 0)", x.fill(3, 0, 0), -1);
+        x.raw(1, 3, 40);
+        due.is("fill(1, 3, 0)", x.fill(1, 3, 0), -3);
+        due.is("fill(2, 3, 0)", x.fill(2, 3, 0), 40);
+        due.is("fill(2, 3, 1)", x.fill(2, 3, 1), 31);
         x.raw(2, 0, 400);
         due.is("fill(0, 0, 0), CLASH", x.fill(0, 0, 0), -5);
         due.is("fill(1, 0, 0), STATE ahead of NO", x.fill(1, 0, 0), -3);
@@ -165,6 +169,7 @@ public final class LandTest {
         RainCans x = new RainCans();
         due.is("place of all", x.place(0, 20, 0, 20), 1010);
         due.is("place of one", x.place(20, 20, 0, 0), 2000);
+        due.is("place of the last one", x.place(20, 20, 20, 20), 2020);
         due.is("place of two: the least x", x.place(4, 5, 7, 7), 407);
         due.is("place of two: the least y", x.place(4, 4, 7, 8), 407);
         x.can(4, 7);

@@ -12,6 +12,7 @@ public final class RecordsTest {
         test.forgets();
         test.images();
         test.imagesKeepAll();
+        test.imagesOfOtherGardens();
         test.told();
         test.due.end();
     }
@@ -310,6 +311,45 @@ public final class RecordsTest {
         due.is("of(0, 6, 2): l", x.of(0, 6, 2), 8);
         due.is("undo()", x.undo(), 1);
         due.is("of(0, 1, 1)", x.of(0, 1, 1), 20);
+    }
+
+    /** What has other places, NOTES and RADARS by now gets those of the IMAGE again. */
+    private void imagesOfOtherGardens() {
+        due.about("promises 30 and 31, another garden");
+        RainCans x = new RainCans();
+        x.image(1);
+        x.can(2, 3);
+        x.raw(0, 9, 60);
+        say(x, "s8-9");
+        x.note(0);
+        x.radar(0, 5, 5, 100, 200);
+        x.image(0);
+        x.restore(1);
+        for (int can = 0; can < 6; can++) {
+            x.can(20, 20);
+            x.miss(can, 2, 1 + can);
+        }
+        say(x, "s6-10;s12-13");
+        x.note(0);
+        x.radar(0, 5, 5, 150, 160);
+        x.image(1);
+        due.is("restore(0)", x.restore(0), 1);
+        due.is("told(0)", x.told(0), 1);
+        due.is("bound at the CAN", x.bound(9, 2, 3, 0), 60);
+        due.is("bound beside the CAN", x.bound(9, 3, 5, 1), 75);
+        due.is("bound by the RADAR, least", x.bound(0, 5, 5, 0), 100);
+        due.is("bound by the RADAR, most", x.bound(0, 5, 5, 1), 200);
+        due.is("of(0, 7, 5)", x.of(0, 7, 5), -6);
+        due.is("of(0, 8, 5)", x.of(0, 8, 5), 0);
+        due.is("of(0, 9, 5)", x.of(0, 9, 5), 60);
+        due.is("restore(1)", x.restore(1), 1);
+        due.is("told(0)", x.told(0), 6);
+        for (int can = 0; can < 6; can++) {
+            due.is("miss(" + can + ", 2, 0)", x.miss(can, 2, 0), 1 + can);
+        }
+        x.raw(0, 10, 60);
+        due.is("of(0, 6, 5)", x.of(0, 6, 5), 0);
+        due.is("bound at the CAN", x.bound(10, 20, 20, 0), 60);
     }
 
     private void told() {

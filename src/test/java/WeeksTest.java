@@ -10,6 +10,7 @@ public final class WeeksTest {
         test.weekRefusals();
         test.breaks();
         test.breaksByHand();
+        test.breaksByHowMany();
         test.chance();
         test.due.end();
     }
@@ -66,6 +67,10 @@ public final class WeeksTest {
             weekOf(0, 5, new int[] {7, 50, 0, 0, 0, 0, 0}, new int[] {50, 0, 0, 0, 0, 0, 0}), 0, 5, 1, 111, -6);
         explained("two DAYS together", weekOf(0, 5, new int[] {0, 100, 5, 80, 3, 70, 0}, e), 0, 5, 1, 201, -6);
         explained("three DAYS together", weekOf(0, 5, new int[] {10, 90, 5, 80, 0, 0, 73}, e), 0, 5, 1, 246, -6);
+        explained("the last two DAYS together",
+            weekOf(0, 5, new int[] {10, 90, 5, 80, 3, 0, 90}, new int[] {10, 90, 5, 80, 3, 70, 20}), 0, 5, 1, 256, -6);
+        explained("the second ahead of the first",
+            weekOf(0, 5, new int[] {20, 50, 90, 0, 0, 0, 0}, new int[] {90, 20, 50, 0, 0, 0, 0}), 0, 10, 2, 10, 0);
         explained("two changes", weekOf(0, 5, new int[] {90, 10, 5, 80, 70, 3, 0}, e), 0, 10, 2, 0, 40);
         explained("a SUM of a WEEK with cut parts",
             weekOf(0, 1, new int[] {0, 0, 100, 0, 0, 0, 0}, new int[] {30, 31, 30, 0, 0, 0, 0}), 0, 10, 1, 202, -6);
@@ -155,6 +160,21 @@ public final class WeeksTest {
         // 4 of 9 against 5 of 9: squares 80 by 20 = 4 and 64 by 20 = 3
         x = differing(1, 1, 0, 0, 0, 0, 0, 0, 0);
         due.is("breaks(0, 1): -2 by 4 is cut to 0", x.breaks(0, 1), 0);
+    }
+
+    private void breaksByHowMany() {
+        due.about("promise 15, by how many are in the parts");
+        // behind four 2840 by itself by 32 is 252050; behind six 2940 by itself by 36 is 240100
+        RainCans x = differing(100, 100, 100, 100, 45, 45, 0, 0, 0, 0, 0, 0);
+        due.is("breaks(0, 0)", x.breaks(0, 0), 9);
+        due.is("breaks(0, 1): -2840 by 32", x.breaks(0, 1), -88);
+        // on DAY 0 there is a DIFFERENCE, too: the first four are on DAYS 0, 1, 3, 5 then
+        x = differing(0, 0, 0, 10, 10, 10, 10);
+        due.is("breaks(0, 0) of seven", x.breaks(0, 0), -1000000005);
+        x.raw(0, 0, 100);
+        x.raw(1, 0, 100);
+        due.is("breaks(0, 0) of eight", x.breaks(0, 0), 7);
+        due.is("breaks(0, 1) of eight", x.breaks(0, 1), 10);
     }
 
     private void chance() {
