@@ -349,7 +349,7 @@ public final class RainCans {
     }
 
     public int seam(int row, int i) {
-        if (!isRow(row) || i < -2) {
+        if (!isRow(row)) {
             return OUTSIDE;
         }
         rain.refresh();
@@ -361,7 +361,8 @@ public final class RainCans {
         if (i == -1) {
             return records.seamCount;
         }
-        return i < records.seamCount ? records.seams[i] : NONE;
+        // of i the document tells no bounds: where there is no i-th DAY, there is none
+        return i >= 0 && i < records.seamCount ? records.seams[i] : NONE;
     }
 
     public int claim(int can, int day) {

@@ -264,7 +264,7 @@ public final class ModelTest {
             row = row * 10 + num(0, 6);
         }
         due.is("record(" + row + ", " + d + ", " + end + ")", x.record(row, d, end), m.record(row, d, end));
-        int i = num(-2, 8);
+        int i = num(-4, 8);
         due.is("seam(" + row + ", " + i + ")", x.seam(row, i), m.seam(row, i));
     }
 }

@@ -698,7 +698,7 @@ final class PlainModel {
     }
 
     int seam(int row, int i) {
-        if (noRow(row) || i < -2) {
+        if (noRow(row)) {
             return OUTSIDE;
         }
         List<Integer> seams = new ArrayList<>();
@@ -714,10 +714,13 @@ final class PlainModel {
                 last = can;
             }
         }
-        if (i < 0) {
-            return i == -1 ? seams.size() : sum;
+        if (i == -2) {
+            return sum;
         }
-        return i < seams.size() ? seams.get(i) : NONE;
+        if (i == -1) {
+            return seams.size();
+        }
+        return i >= 0 && i < seams.size() ? seams.get(i) : NONE;
     }
 
     int claim(int can, int day) {

@@ -84,8 +84,12 @@ public final class RecordsTest {
         due.is("seam(123, 5)", x.seam(123, 5), -6);
         due.is("seam(123, MAX)", x.seam(123, Integer.MAX_VALUE), -6);
         due.is("seam(123, -2)", x.seam(123, -2), 71);
-        due.is("seam(123, -3)", x.seam(123, -3), -2);
-        due.is("seam(123, MIN)", x.seam(123, Integer.MIN_VALUE), -2);
+        due.is("seam(123, -3): no such DAY, and i is not refused", x.seam(123, -3), -6);
+        due.is("seam(123, MIN)", x.seam(123, Integer.MIN_VALUE), -6);
+        due.is("seam(0, -3): the row is refused", x.seam(0, -3), -2);
+        due.is("seam(666667, MIN)", x.seam(666667, Integer.MIN_VALUE), -2);
+        due.is("seam(7, MAX)", x.seam(7, Integer.MAX_VALUE), -2);
+        due.is("seam(1, -3) without CANS", new RainCans().seam(1, -3), -6);
         due.is("seam(0, -1)", x.seam(0, -1), -2);
         due.is("seam(8, -1)", x.seam(8, -1), -2);
         due.is("seam(1, -1): DAYS between do not count", x.seam(1, -1), 0);
