@@ -807,7 +807,7 @@ public final class RainCans {
 
         private int fallen(int can, int day, int caught) {
             int tenths = 10 - garden.missed[can * WINDS + garden.winds[day]];
-            return caught * 10 / tenths;
+            return tenths == 0 ? NOTHING : caught * 10 / tenths;
         }
 
         private void expectDays(int can) {

@@ -20,18 +20,6 @@ public final class CansTest {
         test.due.end();
     }
 
-    private static void say(RainCans x, String text) {
-        for (char sign : text.toCharArray()) {
-            x.say(sign);
-        }
-    }
-
-    private static int note(RainCans x, int can, String text) {
-        x.wipe();
-        say(x, text);
-        return x.note(can);
-    }
-
     private void newObject() {
         due.about("promise 1");
         RainCans x = new RainCans();
@@ -205,18 +193,18 @@ public final class CansTest {
             0, -6, 10, 2, 2, 1, 7};
         for (int n = 0; n < texts.length; n++) {
             RainCans x = new RainCans();
-            say(x, texts[n]);
+            Plots.say(x, texts[n]);
             due.is("fault() of " + texts[n], x.fault(), faults[n]);
             due.is("told(2), which stays", x.told(2), texts[n].length());
         }
         RainCans x = new RainCans();
-        say(x, "x1;x2;x3;x4;x5;x6;x7;x8;x9;x10;x11;x123;");
+        Plots.say(x, "x1;x2;x3;x4;x5;x6;x7;x8;x9;x10;x11;x123;");
         due.is("fault() of 40 signs", x.fault(), 38);
         x.wipe();
-        say(x, "x1;x2;x3;x4;x5;x6;x7;x8;x9;x10;x11;x12;;");
+        Plots.say(x, "x1;x2;x3;x4;x5;x6;x7;x8;x9;x10;x11;x12;;");
         due.is("fault() of 40 signs", x.fault(), 39);
         x.wipe();
-        say(x, "x01;x2;x3;x4;x5;x6;x7;x8;x9;x10;x11;x12;");
+        Plots.say(x, "x01;x2;x3;x4;x5;x6;x7;x8;x9;x10;x11;x12;");
         due.is("fault() of 40 signs, when more must come", x.fault(), 40);
     }
 
@@ -229,7 +217,7 @@ public final class CansTest {
         x.raw(0, 5, 44);
         x.raw(1, 5, 45);
         due.is("note(0) of no signs", x.note(0), 0);
-        say(x, "x5");
+        Plots.say(x, "x5");
         due.is("note(2)", x.note(2), -1);
         due.is("note(-1)", x.note(-1), -1);
         due.is("told(2): the signs are still there", x.told(2), 2);
@@ -237,16 +225,16 @@ public final class CansTest {
         due.is("told(2): they are gone", x.told(2), 0);
         due.is("of(0, 5, 2)", x.of(0, 5, 2), -6);
         due.is("of(1, 5, 2), another CAN", x.of(1, 5, 2), 45);
-        due.is("note of x5-", note(x, 0, "x5-"), -5);
+        due.is("note of x5-", Plots.note(x, 0, "x5-"), -5);
         due.is("told(2): a refused one leaves the signs", x.told(2), 3);
         due.is("of(0, 5, 2): and the NOTES", x.of(0, 5, 2), -6);
-        due.is("note of x6", note(x, 0, "x6"), 1);
+        due.is("note of x6", Plots.note(x, 0, "x6"), 1);
         due.is("of(0, 5, 2): the new ones count alone", x.of(0, 5, 2), 44);
-        due.is("note of x05", note(x, 0, "x05"), 1);
+        due.is("note of x05", Plots.note(x, 0, "x05"), 1);
         due.is("of(0, 5, 2)", x.of(0, 5, 2), -6);
-        due.is("note of nothing", note(x, 0, ""), 0);
+        due.is("note of nothing", Plots.note(x, 0, ""), 0);
         due.is("of(0, 5, 2): none any more", x.of(0, 5, 2), 44);
-        due.is("note of many", note(x, 0, "x0;x1;x2;x3;x4;x5;x6;x7;x8;x9;l10;s12-27"), 12);
+        due.is("note of many", Plots.note(x, 0, "x0;x1;x2;x3;x4;x5;x6;x7;x8;x9;l10;s12-27"), 12);
     }
 
     private void notesThatAreNotTaken() {
@@ -259,10 +247,10 @@ public final class CansTest {
             "x5-5", "s5-5", "x3;x3", "x3;l3", "x1-4;s4-6", "s5;x4", "s5;s4", "x4;s5", "s5;s6", "x0-27;l9", "x;", "q"};
         for (String text : taken) {
             int items = text.split(";").length;
-            due.is("note of " + text, note(x, 0, text), items);
+            due.is("note of " + text, Plots.note(x, 0, text), items);
         }
         for (String text : not) {
-            due.is("note of " + text, note(x, 0, text), -5);
+            due.is("note of " + text, Plots.note(x, 0, text), -5);
         }
     }
 
@@ -275,7 +263,7 @@ public final class CansTest {
         }
         x.raw(0, 20, -1);
         x.fix(0, 9, 7);
-        due.is("note", note(x, 0, "x3;l4;l8-9;s12-14;l15;l20;x22-23;l27"), 8);
+        due.is("note", Plots.note(x, 0, "x3;l4;l8-9;s12-14;l15;l20;x22-23;l27"), 8);
         int[] read = {100, 101, 102, -6, -6, 105, 106, 108, 7, -6, 110, 111, -6, -6, 115, -6, 116, 117, 118, -6, -6, 121,
             -6, -6, 124, 125, 127, -6};
         for (int day = 0; day < 28; day++) {
@@ -315,7 +303,7 @@ public final class CansTest {
         x.wind(3, 2);
         x.raw(0, 3, 80);
         due.is("of(0, 3, 5)", x.of(0, 3, 5), 100);
-        due.is("note", note(x, 0, "s0-3"), 1);
+        due.is("note", Plots.note(x, 0, "s0-3"), 1);
         // 100 over EXPECTED of 15, 0, 40, nothing
         int[] parts = {27, 0, 72, 1};
         for (int day = 0; day < 4; day++) {
@@ -332,11 +320,11 @@ public final class CansTest {
         x.raw(2, 2, -1);
         due.is("of(0, 0, 5): all to the last", x.of(0, 0, 5), 0);
         due.is("of(0, 3, 5)", x.of(0, 3, 5), 100);
-        due.is("note", note(x, 0, "s1;l4"), 2);
+        due.is("note", Plots.note(x, 0, "s1;l4"), 2);
         x.raw(0, 4, 8);
         due.is("of(0, 3, 5): from the DAY behind", x.of(0, 3, 5), 10);
         due.is("of(0, 1, 5): no SUM was READ", x.of(0, 1, 5), -6);
-        due.is("note", note(x, 0, "s3;l4"), 2);
+        due.is("note", Plots.note(x, 0, "s3;l4"), 2);
         due.is("of(0, 3, 2): a SUM read late", x.of(0, 3, 2), 8);
         due.is("of(0, 2, 5)", x.of(0, 2, 5), 0);
         due.is("of(0, 3, 5)", x.of(0, 3, 5), 10);
@@ -358,7 +346,7 @@ public final class CansTest {
             due.is("of(0, " + day + ", 4)", x.of(0, day, 4), 35);
             due.is("of(5, " + day + ", 5)", x.of(5, day, 5), 55);
         }
-        due.is("note", note(x, 5, "s0-26;l27"), 2);
+        due.is("note", Plots.note(x, 5, "s0-26;l27"), 2);
         due.is("of(5, 26, 2)", x.of(5, 26, 2), 55);
         due.is("of(5, 27, 2)", x.of(5, 27, 2), -6);
         due.is("of(5, 0, 5)", x.of(5, 0, 5), 2);

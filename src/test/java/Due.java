@@ -25,6 +25,10 @@ final class Due {
         }
     }
 
+    int asked() {
+        return asked;
+    }
+
     int wrong() {
         return wrong;
     }

@@ -2,7 +2,8 @@ import java.util.Random;
 
 /** Long mixed runs of calls, the class beside the plain model: every answer must be the same. */
 public final class ModelTest {
-    private static final int RUNS = 1500, CALLS = 512;
+    /** Of an object's 512 calls the last ones are left, as one turn of a run may take some sixty. */
+    private static final int RUNS = 3000, CALLS = 512, TURN = 64;
     private static final String[] ITEMS = {"x3", "x10-14", "l5", "l6-8", "s9", "s11-13", "s14-15", "x0", "l27", "s27",
         "s0-6", "l1", "s1", "x27", "l2-3", "s20-26", "x5-5", "s4-3", "x28", "l0", "s0", "s0-1", "l16"};
     private static final int[] WILD = {Integer.MIN_VALUE, Integer.MAX_VALUE, -2, -3, -1, 1000, 28, 6, 21, 10000, 7};
@@ -27,9 +28,10 @@ public final class ModelTest {
         x = new RainCans();
         m = new PlainModel();
         tame = run % 3 == 0 ? 15 : 400;
-        int calls = setUp(run);
+        int before = due.asked();
+        setUp(run);
         due.about("run " + run);
-        for (int n = calls; n < CALLS && due.wrong() < 20; n++) {
+        while (due.asked() - before + TURN <= CALLS && due.wrong() < 20) {
             if (random.nextInt(3) == 0) {
                 change();
             } else {
@@ -39,25 +41,21 @@ public final class ModelTest {
     }
 
     /** A garden in which most calls have something to tell. */
-    private int setUp(int run) {
+    private void setUp(int run) {
         int cans = run % 7;
-        int calls = 0;
         int close = 1 + random.nextInt(20);
         for (int c = 0; c < cans; c++) {
             int atX = random.nextInt(close + 1);
             int atY = random.nextInt(close + 1);
             due.is("can", x.can(atX, atY), m.can(atX, atY));
-            calls++;
             int level = random.nextInt(3);
             for (int d = 0; d < 28; d++) {
                 if (random.nextInt(5) > 0) {
                     int v = reading(level);
                     due.is("raw", x.raw(c, d, v), m.raw(c, d, v));
-                    calls++;
                 }
             }
         }
-        return calls;
     }
 
     private int reading(int level) {

@@ -17,12 +17,6 @@ public final class RecordsTest {
         test.due.end();
     }
 
-    private static void say(RainCans x, String text) {
-        for (char sign : text.toCharArray()) {
-            x.say(sign);
-        }
-    }
-
     private static RainCans three() {
         RainCans x = new RainCans();
         x.can(0, 0);
@@ -65,7 +59,7 @@ public final class RecordsTest {
         due.is("record(9, 28, 0)", x.record(9, 28, 0), -2);
         due.is("record(1, 28, 0)", x.record(1, 28, 0), -1);
         due.is("record(1, -1, 0)", x.record(1, -1, 0), -1);
-        say(x, "s1-2");
+        Plots.say(x, "s1-2");
         x.note(1);
         // CAN 1's SUM of 17 parted by EXPECTED: 22 (CAN 2 alone), 7 (CAN 0 alone)
         due.is("record(213, 1, 0): a VALUE of a SUM", x.record(213, 1, 0), 12);
@@ -242,7 +236,7 @@ public final class RecordsTest {
         x.raw(0, 0, 9);
         x.miss(0, 0, 5);
         due.is("image(1)", x.image(1), 1);
-        say(x, "x0");
+        Plots.say(x, "x0");
         due.is("restore(0)", x.restore(0), 1);
         due.is("told(0)", x.told(0), 0);
         due.is("told(2): the signs stay", x.told(2), 2);
@@ -272,7 +266,7 @@ public final class RecordsTest {
         x.raw(0, 1, 12);
         x.fix(0, 1, 20);
         x.fix(0, 1, 30);
-        say(x, "x2;s5;l7");
+        Plots.say(x, "x2;s5;l7");
         x.note(0);
         x.miss(1, 2, 3);
         x.wind(9, 2);
@@ -324,7 +318,7 @@ public final class RecordsTest {
         x.image(1);
         x.can(2, 3);
         x.raw(0, 9, 60);
-        say(x, "s8-9");
+        Plots.say(x, "s8-9");
         x.note(0);
         x.radar(0, 5, 5, 100, 200);
         x.image(0);
@@ -333,7 +327,7 @@ public final class RecordsTest {
             x.can(20, 20);
             x.miss(can, 2, 1 + can);
         }
-        say(x, "s6-10;s12-13");
+        Plots.say(x, "s6-10;s12-13");
         x.note(0);
         x.radar(0, 5, 5, 150, 160);
         x.image(1);
@@ -360,7 +354,7 @@ public final class RecordsTest {
         due.about("promise 32");
         RainCans x = three();
         x.fix(0, 0, 1);
-        say(x, "abc");
+        Plots.say(x, "abc");
         x.radar(0, 0, 0, 0, 0);
         x.radar(0, 0, 0, 0, 0);
         x.wind(0, 1);

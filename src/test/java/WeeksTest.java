@@ -198,7 +198,8 @@ public final class WeeksTest {
         due.holds("it is a chance: " + before, before > 10 && before < 99);
     }
 
-    private static int shuffled(int[] differences, int seed) {
+    /** CHANCE told a second time. */
+    static int shuffled(int[] differences, int seed) {
         int[] row = differences.clone();
         double own = greatest(row);
         int count = 0;
