@@ -37,6 +37,7 @@ public final class EdgesRecordsTest {
         test.imageEnds();
         test.imageIsNotKept();
         test.imageKeepsAll();
+        test.imageKeepsEveryCell();
         test.imageKeepsNoSigns();
         test.imagesApart();
         test.imageOfNothing();
@@ -554,7 +555,9 @@ public final class EdgesRecordsTest {
         due.is("of(0, 6, 0), RAW", x.of(0, 6, 0), 30);
         due.is("of(0, 9, 2), NOTES: x", x.of(0, 9, 2), NONE);
         due.is("of(0, 11, 2), NOTES: l", x.of(0, 11, 2), 12);
+        due.is("of(0, 14, 5), NOTES: the DAY ahead of s", x.of(0, 14, 5), 14);
         due.is("of(0, 15, 5), NOTES: s", x.of(0, 15, 5), 0);
+        due.is("of(0, 16, 2), NOTES: s", x.of(0, 16, 2), NONE);
         due.is("of(0, 17, 5), NOTES: s", x.of(0, 17, 5), 17);
         due.is("of(0, 18, 2), NOTES: the DAY behind", x.of(0, 18, 2), 18);
         due.is("told(1), FIXES", x.told(1), 3);
@@ -599,7 +602,7 @@ public final class EdgesRecordsTest {
         for (int n = 0; n < 6; n++) {
             x.can(20 - n, n);
             x.miss(n, 2, 9);
-            Plots.note(x, n, "l9;x12;s14-16;s18-19");
+            Plots.note(x, n, "l9;x12;s14-18");
             x.raw(n, 6, 999);
             for (int k = 0; k < 3; k++) {
                 x.fix(n, 20 + k, 900 + k);
@@ -611,6 +614,44 @@ public final class EdgesRecordsTest {
         x.set(1, 1);
         x.set(2, 1);
         x.set(3, 1);
+    }
+
+    private void imageKeepsEveryCell() {
+        due.about("promises 30 and 31, every CAN's MISS and RAW, every DAY's WIND");
+        RainCans x = new RainCans();
+        x.image(1);
+        for (int can = 0; can < 6; can++) {
+            x.can(can, can);
+            for (int wind = 0; wind < 3; wind++) {
+                x.miss(can, wind, can + wind + 1);
+            }
+            for (int day = 0; day < 28; day++) {
+                x.raw(can, day, 28 * can + day);
+            }
+        }
+        for (int day = 0; day < 28; day++) {
+            x.wind(day, 1 + day % 2);
+        }
+        x.image(0);
+        x.restore(1);
+        for (int n = 0; n < 18; n++) {
+            if (n % 3 == 0) {
+                x.can(9, 9);
+            }
+            x.miss(n / 3, n % 3, 9);
+        }
+        x.restore(0);
+        for (int can = 0; can < 6; can++) {
+            for (int wind = 0; wind < 3; wind++) {
+                due.is("miss(" + can + ", " + wind + ", 0)", x.miss(can, wind, 0), can + wind + 1);
+            }
+            for (int day = 0; day < 28; day++) {
+                due.is("of(" + can + ", " + day + ", 0)", x.of(can, day, 0), 28 * can + day);
+            }
+        }
+        for (int day = 0; day < 28; day++) {
+            due.is("told(" + (10 + day) + ")", x.told(10 + day), 1 + day % 2);
+        }
     }
 
     private void imageKeepsNoSigns() {
