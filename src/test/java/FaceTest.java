@@ -2,11 +2,15 @@ import java.lang.reflect.Constructor;
 import java.lang.reflect.Field;
 import java.lang.reflect.Method;
 import java.lang.reflect.Modifier;
+import java.nio.file.Files;
+import java.nio.file.Path;
 import java.util.ArrayList;
 import java.util.Collections;
 import java.util.HashSet;
 import java.util.List;
 import java.util.Set;
+import java.util.regex.Matcher;
+import java.util.regex.Pattern;
 
 /** The class has the document's face and nothing beside it (rule 1 of LANGUAGE.md). */
 public final class FaceTest {
@@ -24,13 +28,14 @@ public final class FaceTest {
 
     private final Due due = new Due();
 
-    public static void main(String[] args) {
+    public static void main(String[] args) throws Exception {
         FaceTest test = new FaceTest();
         test.due.about("the face");
         test.methods();
         test.fields();
         test.constructors();
         test.classesInside();
+        test.asTheDocumentHasIt();
         test.due.end();
     }
 
@@ -100,6 +105,42 @@ public final class FaceTest {
             }
             due.holds(c + " has too many fields: " + own, own <= 20);
         }
+    }
+
+    /** The face to the letter, parameters' names too, and what the interface says ahead of its calls. */
+    private void asTheDocumentHasIt() throws Exception {
+        String document = Files.readString(Path.of("../shared/DOC.md"));
+        String program = Files.readString(Path.of("src/main/java/RainCans.java"));
+        Matcher line = Pattern.compile("(?m)^ *(public [^;{]*?)[;{ ]*$").matcher(document);
+        int lines = 0;
+        while (line.find()) {
+            lines++;
+            due.holds("does not stand in the program: " + line.group(1), program.contains(line.group(1)));
+        }
+        due.is("lines of the face", lines, 1 + 3 + 1 + METHODS.length);
+        Matcher part = Pattern.compile("Ahead of the calls (.*) the interface says: (---- .*)\\.").matcher(document);
+        int parts = 0;
+        while (part.find()) {
+            parts++;
+            List<String> ahead = new ArrayList<>(List.of(part.group(1).replace("`", "").split(", ")));
+            due.holds(ahead + " have not this ahead: " + part.group(2), callsBehind(program, part.group(2)).equals(ahead));
+        }
+        due.is("parts of the interface", parts, 5);
+    }
+
+    /** The public calls from a comment on to the next such one. */
+    private static List<String> callsBehind(String program, String comment) {
+        List<String> calls = new ArrayList<>();
+        int from = program.indexOf("    // " + comment + "\n");
+        if (from >= 0) {
+            int to = program.indexOf("    // ----", from + 1);
+            String between = program.substring(from, to < 0 ? program.length() : to);
+            Matcher call = Pattern.compile("public \\w+ (\\w+)\\(").matcher(between);
+            while (call.find()) {
+                calls.add(call.group(1));
+            }
+        }
+        return calls;
     }
 
     private static String types(Class<?>[] all) {
